@@ -2,6 +2,7 @@
 public final class ComingTest {
   public static void main(String[] args) {
     coming();
+    comingLeftOver();
     comingFromNow();
     comingBad();
     menuByDays();
@@ -19,6 +20,16 @@ public final class ComingTest {
     for (int d = 0; d < 5; d++) Due.is("coming " + d, x.coming(d), due[d]);
     x.stands();
     for (int d = 0; d < 5; d++) Due.is("coming, it stands " + d, x.coming(d), due[d]);
+  }
+
+  // What is left over of the cream comes with that of the next day.
+  private static void comingLeftOver() {
+    ChurnedTime x = Due.told("d22 5;d2 5;d7 5;d10 5;d24 5;", 5);
+    int[] due = {0, 3, 4, 5, 6};
+    for (int d = 0; d < 5; d++) Due.is("coming " + d, x.coming(d), due[d]);
+    x = Due.told("d6 5;d1 5;d4 5;d2 5;d0 0;", 5);
+    int[] less = {0, 1, 1, 1, 2};
+    for (int d = 0; d < 5; d++) Due.is("coming of little " + d, x.coming(d), less[d]);
   }
 
   private static void comingFromNow() {

@@ -11,6 +11,8 @@ public final class TextTest {
     tokensGluedTogether();
     faultChangesNothing();
     readAnew();
+    readOftenAnew();
+    barnAnew();
     dayAndWork();
     Due.end();
   }
@@ -220,6 +222,40 @@ public final class TextTest {
     Due.is("day 1 read anew", x.day(1, 0), ChurnedTime.BAD);
     Due.is("work 0 read anew", x.work(0, 3), 0);
     Due.is("pounds read anew", x.work(0, 1), 2);
+  }
+
+  private static void counts(ChurnedTime x, String text, int items, int... due) {
+    x.clear();
+    Due.type(x, text);
+    Due.is("dairy of " + text, x.dairy(), items);
+    for (int what = 0; what < due.length; what++) Due.is("count " + what + " of " + text, x.count(what), due[what]);
+  }
+
+  private static void readOftenAnew() {
+    ChurnedTime x = new ChurnedTime();
+    counts(x, "d1 1;d2 2;w1 1 1;f5;c1;c2;", 6, 2, 1, 5, 2);
+    counts(x, "c9;", 1, 0, 0, 3, 1);
+    counts(x, "d3 3;", 1, 1, 0, 3, 0);
+    Due.is("hours", x.day(0, 0), 3);
+    counts(x, "f2;w1 2 3;", 2, 0, 1, 2, 0);
+    counts(x, "d1 1;d2 2;w1 1 1;f5;c1;c2;x", -36, 0, 1, 2, 0);
+    counts(x, "f1;", 1, 0, 0, 1, 0);
+    counts(x, "d1 1;f4;c1;w", -22, 0, 0, 1, 0);
+    counts(x, "w1 2 3;", 1, 0, 1, 3, 0);
+    counts(x, "", 0, 0, 0, 3, 0);
+  }
+
+  private static void barnAnew() {
+    ChurnedTime x = Due.told("d24 5;d24 5;d0 5;d0 5;d0 5;", 5);
+    x.stands();
+    x.night();
+    x.beats(10);
+    x.stands();
+    for (int i = 0; i < 3; i++) x.night();
+    x.beats(7);
+    Due.same("ahead", Due.barn(x), "4 0 12 7 0 0 4 0 0 3 0 0 0 ");
+    Due.is("nothing told", x.dairy(), 0);
+    Due.same("barn anew", Due.barn(x), "0 0 0 0 0 0 0 0 0 0 0 0 0 ");
   }
 
   private static void dayAndWork() {
