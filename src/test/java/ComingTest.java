@@ -15,7 +15,7 @@ public final class ComingTest {
   }
 
   private static void coming() {
-    ChurnedTime x = Due.told("d20 5;d13 7;d9 0;d24 9;d0 0;", 5);
+    Used x = Due.told("d20 5;d13 7;d9 0;d24 9;d0 0;", 5);
     int[] due = {0, 3, 5, 6, 10};
     for (int d = 0; d < 5; d++) Due.is("coming " + d, x.coming(d), due[d]);
     x.stands();
@@ -24,7 +24,7 @@ public final class ComingTest {
 
   // What is left over of the cream comes with that of the next day.
   private static void comingLeftOver() {
-    ChurnedTime x = Due.told("d22 5;d2 5;d7 5;d10 5;d24 5;", 5);
+    Used x = Due.told("d22 5;d2 5;d7 5;d10 5;d24 5;", 5);
     int[] due = {0, 3, 4, 5, 6};
     for (int d = 0; d < 5; d++) Due.is("coming " + d, x.coming(d), due[d]);
     x = Due.told("d6 5;d1 5;d4 5;d2 5;d0 0;", 5);
@@ -33,7 +33,7 @@ public final class ComingTest {
   }
 
   private static void comingFromNow() {
-    ChurnedTime x = Due.told("d24 5;d24 5;d10 9;d0 0;", 4);
+    Used x = Due.told("d24 5;d24 5;d10 9;d0 0;", 4);
     x.stands();
     x.night();
     Due.is("cream of THE DAY", x.coming(1), 4);
@@ -53,7 +53,7 @@ public final class ComingTest {
   }
 
   private static void comingBad() {
-    ChurnedTime x = Due.told("d24 5;d24 5;", 2);
+    Used x = Due.told("d24 5;d24 5;", 2);
     Due.is("coming(-1)", x.coming(-1), ChurnedTime.BAD);
     Due.is("coming(2)", x.coming(2), ChurnedTime.BAD);
     Due.is("coming(least)", x.coming(Integer.MIN_VALUE), ChurnedTime.BAD);
@@ -64,10 +64,10 @@ public final class ComingTest {
     x.night();
     Due.is("over", x.coming(1), ChurnedTime.BAD);
     Due.is("over", x.coming(2), ChurnedTime.BAD);
-    Due.is("no days", new ChurnedTime().coming(0), ChurnedTime.BAD);
+    Due.is("no days", new Used().coming(0), ChurnedTime.BAD);
   }
 
-  private static void menu(ChurnedTime x, int bits, int worth) {
+  private static void menu(Used x, int bits, int worth) {
     Due.is("menu(0)", x.menu(0), bits);
     Due.is("menu(1)", x.menu(1), worth);
   }
@@ -78,7 +78,7 @@ public final class ComingTest {
     menu(Due.told("d24 5;d24 5;d0 5;w1 4 9;w2 4 9;w2 8 19;", 6), 4, 19);
     menu(Due.told("d24 5;d24 5;d0 5;w1 5 99;w2 4 9;w2 4 1;", 6), 6, 10);
     menu(Due.told("d24 5;d24 5;d0 5;w2 4 9;w1 4 8;w2 1 3;", 6), 3, 17);
-    ChurnedTime x = new ChurnedTime();
+    Used x = new Used();
     menu(x, 0, 0);
     Due.is("menu(2)", x.menu(2), ChurnedTime.BAD);
     Due.is("menu(-1)", x.menu(-1), ChurnedTime.BAD);
@@ -99,7 +99,7 @@ public final class ComingTest {
   }
 
   private static void menuOver() {
-    ChurnedTime x = Due.told("d24 5;d24 5;w1 1 9;w2 2 1;w9 2 3;w13 3 4;", 6);
+    Used x = Due.told("d24 5;d24 5;w1 1 9;w2 2 1;w9 2 3;w13 3 4;", 6);
     x.stands();
     x.night();
     x.beats(10);
@@ -115,7 +115,7 @@ public final class ComingTest {
   }
 
   private static void menuWithoutFedAndPast() {
-    ChurnedTime x = Due.told("d24 5;d24 5;d24 5;w1 1 9;w2 3 8;w0 1 7;", 6);
+    Used x = Due.told("d24 5;d24 5;d24 5;w1 1 9;w2 3 8;w0 1 7;", 6);
     menu(x, 3, 17);
     x.stands();
     x.night();
@@ -131,7 +131,7 @@ public final class ComingTest {
   }
 
   private static void nothingIsChanged() {
-    ChurnedTime x = Due.told("d24 5;d24 5;d24 5;w1 1 9;w2 3 8;w0 1 7;", 6);
+    Used x = Due.told("d24 5;d24 5;d24 5;w1 1 9;w2 3 8;w0 1 7;", 6);
     x.stands();
     x.night();
     x.beats(3);

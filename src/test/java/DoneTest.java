@@ -22,7 +22,7 @@ public final class DoneTest {
   }
 
   private static void standing() {
-    ChurnedTime x = Due.told("d7 5;d24 5;", 2);
+    Used x = Due.told("d7 5;d24 5;", 2);
     Due.is("stands", x.stands(), 7);
     Due.is("now(1)", x.now(1), 7);
     Due.is("now(2)", x.now(2), 0);
@@ -41,7 +41,7 @@ public final class DoneTest {
   }
 
   private static void standingOfNoHours() {
-    ChurnedTime x = Due.told("d0 5;d0 5;", 2);
+    Used x = Due.told("d0 5;d0 5;", 2);
     Due.is("stands", x.stands(), 0);
     Due.is("stands twice", x.stands(), ChurnedTime.STATE);
     Due.is("undo", x.undo(), 0);
@@ -53,15 +53,15 @@ public final class DoneTest {
     Due.is("stands as the image has it", x.stands(), ChurnedTime.STATE);
   }
 
-  private static ChurnedTime withCream(String text, int items) {
-    ChurnedTime x = Due.told(text, items);
+  private static Used withCream(String text, int items) {
+    Used x = Due.told(text, items);
     x.stands();
     x.night();
     return x;
   }
 
   private static void beating() {
-    ChurnedTime x = withCream("d22 5;d0 5;", 2);
+    Used x = withCream("d22 5;d0 5;", 2);
     Due.is("cream", x.now(2), 11);
     Due.is("need", x.now(9), 10);
     Due.is("beats(9)", x.beats(9), ChurnedTime.NONE);
@@ -83,7 +83,7 @@ public final class DoneTest {
   }
 
   private static void beatingBadly() {
-    ChurnedTime x = Due.told("d24 5;d24 5;", 2);
+    Used x = Due.told("d24 5;d24 5;", 2);
     int[] bad = {0, -1, 100, Integer.MIN_VALUE, Integer.MAX_VALUE};
     for (int n : bad) Due.is("beats bad, no cream " + n, x.beats(n), ChurnedTime.BAD);
     Due.is("no cream", x.beats(1), ChurnedTime.STATE);
@@ -104,7 +104,7 @@ public final class DoneTest {
   private static void strokesByWarmth() {
     int[] strokes = {25, 22, 19, 16, 13, 10, 13, 16, 19, 22};
     for (int warmth = 0; warmth <= 9; warmth++) {
-      ChurnedTime x = withCream("d24 5;d24 " + warmth + ";", 2);
+      Used x = withCream("d24 5;d24 " + warmth + ";", 2);
       Due.is("need by " + warmth, x.now(9), strokes[warmth]);
       Due.is("strokes with a quarrel by " + warmth, x.quarrels(1), strokes[warmth] + 10);
       Due.is("need with a quarrel by " + warmth, x.now(9), strokes[warmth] + 10);
@@ -117,7 +117,7 @@ public final class DoneTest {
   }
 
   private static void beatenMoreThanStrokes() {
-    ChurnedTime x = withCream("d24 5;d24 5;", 2);
+    Used x = withCream("d24 5;d24 5;", 2);
     x.quarrels(1);
     Due.is("beats(15)", x.beats(15), ChurnedTime.NONE);
     Due.is("need", x.now(9), 5);
@@ -129,7 +129,7 @@ public final class DoneTest {
   }
 
   private static void salting() {
-    ChurnedTime x = Due.told("d24 5;d24 5;d24 5;d24 5;", 4);
+    Used x = Due.told("d24 5;d24 5;d24 5;d24 5;", 4);
     int[] bad = {0, -1, 100, Integer.MIN_VALUE, Integer.MAX_VALUE};
     for (int n : bad) Due.is("salts bad " + n, x.salts(n), ChurnedTime.BAD);
     Due.is("salts none", x.salts(1), ChurnedTime.STATE);
@@ -154,7 +154,7 @@ public final class DoneTest {
   }
 
   private static void quarrelling() {
-    ChurnedTime x = Due.told("d24 2;", 1);
+    Used x = Due.told("d24 2;", 1);
     Due.is("quarrels(2)", x.quarrels(2), ChurnedTime.BAD);
     Due.is("quarrels(-1)", x.quarrels(-1), ChurnedTime.BAD);
     Due.is("quarrels(0)", x.quarrels(0), ChurnedTime.STATE);
@@ -169,7 +169,7 @@ public final class DoneTest {
   }
 
   private static void feeding() {
-    ChurnedTime x = withCream("d24 5;d24 5;w1 2 1;w1 3 1;w1 2 1;", 5);
+    Used x = withCream("d24 5;d24 5;w1 2 1;w1 3 1;w1 2 1;", 5);
     int[] bad = {-1, 3, 6, Integer.MIN_VALUE, Integer.MAX_VALUE};
     for (int w : bad) Due.is("feeds bad " + w, x.feeds(w), ChurnedTime.BAD);
     Due.is("feeds from nothing", x.feeds(0), ChurnedTime.STATE);
@@ -188,7 +188,7 @@ public final class DoneTest {
   }
 
   private static void feedingByDue() {
-    ChurnedTime x = withCream("d24 5;d24 5;w0 1 1;w1 1 1;w2 1 1;w13 1 1;w1 1 0;", 7);
+    Used x = withCream("d24 5;d24 5;w0 1 1;w1 1 1;w2 1 1;w13 1 1;w1 1 0;", 7);
     x.beats(10);
     Due.is("past its due", x.feeds(0), ChurnedTime.STATE);
     Due.is("on its due", x.feeds(1), 3);
@@ -199,7 +199,7 @@ public final class DoneTest {
   }
 
   private static void feedingFreshFirst() {
-    ChurnedTime x = Due.told("d24 5;d24 5;d24 5;d24 5;w13 3 1;w13 6 1;w13 1 1;", 7);
+    Used x = Due.told("d24 5;d24 5;d24 5;d24 5;w13 3 1;w13 6 1;w13 1 1;", 7);
     for (int d = 0; d < 3; d++) {
       x.stands();
       x.night();
@@ -220,7 +220,7 @@ public final class DoneTest {
   }
 
   private static void nights() {
-    ChurnedTime x = Due.told("d24 5;d23 5;d1 5;", 3);
+    Used x = Due.told("d24 5;d23 5;d1 5;", 3);
     Due.is("night with nothing", x.night(), 1);
     Due.is("no cream", x.now(2), 0);
     x.stands();
@@ -232,11 +232,11 @@ public final class DoneTest {
     Due.is("0 of 1", x.now(2), 11);
     Due.is("not beaten", x.now(3), 0);
     Due.is("night, over", x.night(), ChurnedTime.STATE);
-    Due.is("night of no days", new ChurnedTime().night(), ChurnedTime.STATE);
+    Due.is("night of no days", new Used().night(), ChurnedTime.STATE);
   }
 
   private static void rancid() {
-    ChurnedTime x = Due.told("d24 5;d18 5;d0 5;d0 5;d0 5;d0 5;", 6);
+    Used x = Due.told("d24 5;d18 5;d0 5;d0 5;d0 5;d0 5;", 6);
     x.stands();
     x.night();
     x.beats(10);
@@ -256,7 +256,7 @@ public final class DoneTest {
   }
 
   private static void undoing() {
-    ChurnedTime x = Due.told("d24 3;d24 5;w1 1 1;", 3);
+    Used x = Due.told("d24 3;d24 5;w1 1 1;", 3);
     String[] was = new String[8];
     was[0] = Due.barn(x);
     x.stands();
@@ -286,7 +286,7 @@ public final class DoneTest {
   }
 
   private static void undoingRefused() {
-    ChurnedTime x = Due.told("d24 3;w0 1 1;", 2);
+    Used x = Due.told("d24 3;w0 1 1;", 2);
     x.beats(1);
     x.salts(1);
     x.quarrels(0);
@@ -309,7 +309,7 @@ public final class DoneTest {
   }
 
   private static void undoingTen() {
-    ChurnedTime x = Due.told("d24 3;", 1);
+    Used x = Due.told("d24 3;", 1);
     for (int i = 1; i <= 23; i++) {
       x.quarrels(i % 2);
       Due.is("known " + i, x.now(10), Math.min(i, 10));
@@ -328,7 +328,7 @@ public final class DoneTest {
   }
 
   private static void nowAndFreshBad() {
-    ChurnedTime x = withCream("d24 5;d1 1;", 2);
+    Used x = withCream("d24 5;d1 1;", 2);
     int[] bad = {-1, 11, Integer.MIN_VALUE, Integer.MAX_VALUE};
     for (int what : bad) Due.is("now " + what, x.now(what), ChurnedTime.BAD);
     int[] ages = {-1, 3, Integer.MIN_VALUE, Integer.MAX_VALUE};

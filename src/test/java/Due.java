@@ -17,7 +17,7 @@ final class Due {
   }
 
   // Types a text; each letter has to be taken.
-  static void type(ChurnedTime x, String text) {
+  static void type(Used x, String text) {
     int had = x.count(5);
     for (int i = 0; i < text.length(); i++) {
       int got = x.type(text.charAt(i));
@@ -26,15 +26,15 @@ final class Due {
   }
 
   // A new object that has read a text.
-  static ChurnedTime told(String text, int items) {
-    ChurnedTime x = new ChurnedTime();
+  static Used told(String text, int items) {
+    Used x = new Used();
     type(x, text);
     is("dairy of \"" + text + "\"", x.dairy(), items);
     return x;
   }
 
   // What now() and fresh() say, in a row; all but how many may be UNDONE.
-  static String barn(ChurnedTime x) {
+  static String barn(Used x) {
     StringBuilder row = new StringBuilder();
     for (int what = 0; what <= 9; what++) row.append(x.now(what)).append(' ');
     for (int age = 0; age <= 2; age++) row.append(x.fresh(age)).append(' ');

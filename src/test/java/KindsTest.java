@@ -11,8 +11,8 @@ public final class KindsTest {
     Due.end();
   }
 
-  private static ChurnedTime withCreamAndSalted() {
-    ChurnedTime x = Due.told("d23 5;d13 7;d9 2;", 3);
+  private static Used withCreamAndSalted() {
+    Used x = Due.told("d23 5;d13 7;d9 2;", 3);
     x.stands();
     x.night();
     x.beats(16);
@@ -21,7 +21,7 @@ public final class KindsTest {
   }
 
   private static void rates() {
-    ChurnedTime x = withCreamAndSalted();
+    Used x = withCreamAndSalted();
     Due.is("cream", x.now(2), 2);
     int[][] due = {{23, 13, 9}, {28, 20, 11}, {21, 11, 7}, {56, 40, 22}, {21, 12, 9}, {24, 14, 10}};
     for (int kind = 0; kind < 6; kind++) {
@@ -36,28 +36,28 @@ public final class KindsTest {
   }
 
   private static void ratesBad() {
-    ChurnedTime x = withCreamAndSalted();
+    Used x = withCreamAndSalted();
     int[] kinds = {-1, 6, Integer.MIN_VALUE, Integer.MAX_VALUE};
     for (int kind : kinds) Due.is("rate " + kind, x.rate(kind, 0), ChurnedTime.NO);
     int[] days = {-1, 3, 14, Integer.MIN_VALUE, Integer.MAX_VALUE};
     for (int kind = 0; kind < 6; kind++) {
       for (int d : days) Due.is("rate " + kind + " of " + d, x.rate(kind, d), ChurnedTime.NO);
     }
-    Due.is("rate of no days", new ChurnedTime().rate(0, 0), ChurnedTime.NO);
+    Due.is("rate of no days", new Used().rate(0, 0), ChurnedTime.NO);
     Due.is("trace", x.trace(), 0);
   }
 
   private static void traces() {
     int[] due = {1, 11, 101, 1011, 10101, 100001};
     for (int kind = 0; kind < 6; kind++) {
-      ChurnedTime x = withCreamAndSalted();
+      Used x = withCreamAndSalted();
       Due.is("trace", x.trace(), 0);
       x.rate(kind, 0);
       Due.is("trace of " + kind, x.trace(), due[kind]);
       x.rate(kind, 1);
       Due.is("trace of " + kind + " twice", x.trace(), 2 * due[kind]);
     }
-    ChurnedTime x = withCreamAndSalted();
+    Used x = withCreamAndSalted();
     x.keep(0);
     x.quarrels(1);
     x.rate(3, 0);
@@ -74,7 +74,7 @@ public final class KindsTest {
   }
 
   private static void images() {
-    ChurnedTime x = withCreamAndSalted();
+    Used x = withCreamAndSalted();
     String first = Due.barn(x);
     Due.is("keep(0)", x.keep(0), 1);
     x.stands();
@@ -98,7 +98,7 @@ public final class KindsTest {
   }
 
   private static void imagesKeepAll() {
-    ChurnedTime x = Due.told("d24 5;d24 5;d24 5;d24 1;d7 3;w13 1 1;w13 2 2;f4;", 8);
+    Used x = Due.told("d24 5;d24 5;d24 5;d24 1;d7 3;w13 1 1;w13 2 2;f4;", 8);
     for (int d = 0; d < 4; d++) {
       x.stands();
       x.night();
@@ -128,7 +128,7 @@ public final class KindsTest {
   }
 
   private static void imagesBad() {
-    ChurnedTime x = withCreamAndSalted();
+    Used x = withCreamAndSalted();
     int[] bad = {-1, 2, Integer.MIN_VALUE, Integer.MAX_VALUE};
     for (int image : bad) {
       Due.is("keep " + image, x.keep(image), ChurnedTime.BAD);
@@ -143,7 +143,7 @@ public final class KindsTest {
   }
 
   private static void imagesAndUndo() {
-    ChurnedTime x = withCreamAndSalted();
+    Used x = withCreamAndSalted();
     int known = x.now(10);
     x.keep(0);
     Due.is("keep is not known", x.now(10), known);

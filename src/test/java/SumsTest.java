@@ -10,12 +10,12 @@ public final class SumsTest {
     Due.end();
   }
 
-  private static void share(ChurnedTime x, int n, int... due) {
+  private static void share(Used x, int n, int... due) {
     for (int c = 0; c < due.length; c++) Due.is("share(" + c + ", " + n + ")", x.share(c, n), due[c]);
   }
 
   private static void shares() {
-    ChurnedTime x = Due.told("c10;c20;c31;", 3);
+    Used x = Due.told("c10;c20;c31;", 3);
     share(x, 100, 16, 33, 51);
     share(x, 0, 0, 0, 0);
     share(x, 1, 0, 0, 1);
@@ -35,16 +35,16 @@ public final class SumsTest {
   }
 
   private static void sharesBad() {
-    ChurnedTime x = Due.told("c10;c20;", 2);
+    Used x = Due.told("c10;c20;", 2);
     int[] claims = {-1, 2, 4, Integer.MIN_VALUE, Integer.MAX_VALUE};
     for (int c : claims) Due.is("share of " + c, x.share(c, 5), ChurnedTime.BAD);
     int[] pounds = {-1, 1000, Integer.MIN_VALUE, Integer.MAX_VALUE};
     for (int n : pounds) Due.is("share by " + n, x.share(0, n), ChurnedTime.BAD);
-    Due.is("share of no claims", new ChurnedTime().share(0, 0), ChurnedTime.BAD);
+    Due.is("share of no claims", new Used().share(0, 0), ChurnedTime.BAD);
   }
 
   private static void back(int a, int b, int u, int v, int many, int forward) {
-    ChurnedTime x = new ChurnedTime();
+    Used x = new Used();
     String call = "back " + a + " " + b + " " + u + " " + v;
     Due.is(call, x.back(a, b, u, v, 0), many);
     Due.is(call + " forward", x.back(a, b, u, v, 1), forward);
@@ -68,7 +68,7 @@ public final class SumsTest {
   }
 
   private static void backBad() {
-    ChurnedTime x = new ChurnedTime();
+    Used x = new Used();
     int[] years = {-1, 100, Integer.MIN_VALUE, Integer.MAX_VALUE};
     for (int n : years) {
       Due.is("back from " + n, x.back(n, 0, 1, 1, 0), ChurnedTime.BAD);
@@ -85,7 +85,7 @@ public final class SumsTest {
   }
 
   private static void odds(int n, int x, int k, int upper, int lower) {
-    ChurnedTime t = new ChurnedTime();
+    Used t = new Used();
     String call = "odds " + n + " " + x + " " + k;
     Due.is(call + " upper", t.odds(n, x, k, 0), upper);
     Due.is(call + " lower", t.odds(n, x, k, 1), lower);
@@ -110,7 +110,7 @@ public final class SumsTest {
   }
 
   private static void oddsBad() {
-    ChurnedTime x = new ChurnedTime();
+    Used x = new Used();
     int[] sixes = {-1, 7, Integer.MIN_VALUE, Integer.MAX_VALUE};
     for (int n : sixes) {
       Due.is("odds n " + n, x.odds(n, 1, 1, 0), ChurnedTime.BAD);

@@ -18,7 +18,7 @@ public final class TextTest {
   }
 
   private static void newObject() {
-    ChurnedTime x = new ChurnedTime();
+    Used x = new Used();
     int[] counts = {0, 0, 3, 0, 0, 0};
     for (int what = 0; what < 6; what++) Due.is("new count " + what, x.count(what), counts[what]);
     Due.is("count(-1)", x.count(-1), ChurnedTime.BAD);
@@ -35,7 +35,7 @@ public final class TextTest {
   }
 
   private static void letters() {
-    ChurnedTime x = new ChurnedTime();
+    Used x = new Used();
     Due.is("clear of none", x.clear(), 0);
     Due.is("type(0)", x.type(0), 1);
     Due.is("type(255)", x.type(255), 2);
@@ -51,7 +51,7 @@ public final class TextTest {
   }
 
   private static void full() {
-    ChurnedTime x = new ChurnedTime();
+    Used x = new Used();
     for (int i = 1; i <= 150; i++) Due.is("type " + i, x.type(32), i);
     Due.is("type 151", x.type(32), ChurnedTime.FULL);
     Due.is("type bad when full", x.type(256), ChurnedTime.BAD);
@@ -67,7 +67,7 @@ public final class TextTest {
   }
 
   private static void items() {
-    ChurnedTime x = Due.told("d20 5;d13 7;w1 3 10;f4;c10;c20;c99;", 7);
+    Used x = Due.told("d20 5;d13 7;w1 3 10;f4;c10;c20;c99;", 7);
     int[] counts = {2, 1, 4, 3, 0, 0};
     for (int what = 0; what < 6; what++) Due.is("count " + what, x.count(what), counts[what]);
     Due.is("dairy of nothing", x.dairy(), 0);
@@ -76,7 +76,7 @@ public final class TextTest {
   }
 
   private static void blanks() {
-    ChurnedTime x = Due.told("  d  7   3 ; w 1 2  3;f 5 ;c9; ", 4);
+    Used x = Due.told("  d  7   3 ; w 1 2  3;f 5 ;c9; ", 4);
     Due.is("hours", x.day(0, 0), 7);
     Due.is("warmth", x.day(0, 1), 3);
     Due.is("due", x.work(0, 0), 1);
@@ -87,7 +87,7 @@ public final class TextTest {
   }
 
   private static void fault(String text, int place) {
-    ChurnedTime x = new ChurnedTime();
+    Used x = new Used();
     Due.type(x, text);
     Due.is("dairy of \"" + text + "\"", x.dairy(), -10 - place);
     Due.is("letters of \"" + text + "\"", x.count(5), text.length());
@@ -153,7 +153,7 @@ public final class TextTest {
     Due.told("w13 30 99;w0 1 0;w0 1 1;w0 1 1;w0 1 1;w0 1 1;f5;c1;c99;c1;c1;", 11);
     Due.is("f1", Due.told("f1;", 1).count(2), 1);
     Due.is("f5", Due.told("f5;", 1).count(2), 5);
-    ChurnedTime x = Due.told("d1 2;d3 4;d5 6;d7 8;d9 0;d11 1;d13 2;d15 3;d17 4;d19 5;d21 6;d23 7;d24 8;d0 9;", 14);
+    Used x = Due.told("d1 2;d3 4;d5 6;d7 8;d9 0;d11 1;d13 2;d15 3;d17 4;d19 5;d21 6;d23 7;d24 8;d0 9;", 14);
     for (int d = 0; d < 12; d++) Due.is("hours of " + d, x.day(d, 0), 2 * d + 1);
     Due.is("hours of 13", x.day(13, 0), 0);
     Due.is("warmth of 13", x.day(13, 1), 9);
@@ -161,7 +161,7 @@ public final class TextTest {
   }
 
   private static void tokensGluedTogether() {
-    ChurnedTime x = Due.told("c7;w13 30 99;d24 9;f1;", 4);
+    Used x = Due.told("c7;w13 30 99;d24 9;f1;", 4);
     Due.is("items in any order, days", x.count(0), 1);
     Due.is("items in any order, works", x.count(1), 1);
     Due.is("items in any order, dairies", x.count(2), 1);
@@ -170,7 +170,7 @@ public final class TextTest {
   }
 
   private static void faultChangesNothing() {
-    ChurnedTime x = Due.told("d20 5;d8 2;w1 1 9;f4;c3;c4;", 6);
+    Used x = Due.told("d20 5;d8 2;w1 1 9;f4;c3;c4;", 6);
     x.stands();
     x.night();
     x.beats(5);
@@ -196,7 +196,7 @@ public final class TextTest {
   }
 
   private static void readAnew() {
-    ChurnedTime x = Due.told("d20 5;d8 2;w1 1 9;f4;c3;c4;", 6);
+    Used x = Due.told("d20 5;d8 2;w1 1 9;f4;c3;c4;", 6);
     x.stands();
     x.night();
     x.beats(19);
@@ -224,7 +224,7 @@ public final class TextTest {
     Due.is("pounds read anew", x.work(0, 1), 2);
   }
 
-  private static void counts(ChurnedTime x, String text, int items, int... due) {
+  private static void counts(Used x, String text, int items, int... due) {
     x.clear();
     Due.type(x, text);
     Due.is("dairy of " + text, x.dairy(), items);
@@ -232,7 +232,7 @@ public final class TextTest {
   }
 
   private static void readOftenAnew() {
-    ChurnedTime x = new ChurnedTime();
+    Used x = new Used();
     counts(x, "d1 1;d2 2;w1 1 1;f5;c1;c2;", 6, 2, 1, 5, 2);
     counts(x, "c9;", 1, 0, 0, 3, 1);
     counts(x, "d3 3;", 1, 1, 0, 3, 0);
@@ -246,7 +246,7 @@ public final class TextTest {
   }
 
   private static void barnAnew() {
-    ChurnedTime x = Due.told("d24 5;d24 5;d0 5;d0 5;d0 5;", 5);
+    Used x = Due.told("d24 5;d24 5;d0 5;d0 5;d0 5;", 5);
     x.stands();
     x.night();
     x.beats(10);
@@ -259,7 +259,7 @@ public final class TextTest {
   }
 
   private static void dayAndWork() {
-    ChurnedTime x = Due.told("d20 5;d8 2;w1 3 9;w13 30 0;", 4);
+    Used x = Due.told("d20 5;d8 2;w1 3 9;w13 30 0;", 4);
     Due.is("day(0, 0)", x.day(0, 0), 20);
     Due.is("day(0, 1)", x.day(0, 1), 5);
     Due.is("day(1, 0)", x.day(1, 0), 8);

@@ -12,7 +12,7 @@ public final class TurnipTest {
   }
 
   private static void tasting() {
-    ChurnedTime x = new ChurnedTime();
+    Used x = new Used();
     Due.is("forget nothing", x.forget(), 0);
     for (int i = 1; i <= 6; i++) {
       Due.is("tasted " + i, x.tasted(7, 1), i);
@@ -26,7 +26,7 @@ public final class TurnipTest {
   }
 
   private static void tastingBad() {
-    ChurnedTime x = new ChurnedTime();
+    Used x = new Used();
     int[] sets = {0, -1, 8, 32, Integer.MIN_VALUE, Integer.MAX_VALUE};
     for (int set : sets) Due.is("tasted " + set, x.tasted(set, 0), ChurnedTime.BAD);
     int[] are = {-1, 2, Integer.MIN_VALUE, Integer.MAX_VALUE};
@@ -40,7 +40,7 @@ public final class TurnipTest {
     Due.is("too much of 5", Due.told("f5;", 1).tasted(32, 0), ChurnedTime.BAD);
   }
 
-  private static void all(ChurnedTime x, int many, int inAll, int least, int taste) {
+  private static void all(Used x, int many, int inAll, int least, int taste) {
     Due.is("cheats(0)", x.cheats(0), many);
     Due.is("cheats(1)", x.cheats(1), inAll);
     Due.is("cheats(2)", x.cheats(2), least);
@@ -48,7 +48,7 @@ public final class TurnipTest {
   }
 
   private static void cheats() {
-    ChurnedTime x = Due.told("f4;", 1);
+    Used x = Due.told("f4;", 1);
     all(x, 16, 0, 0, 1);
     x.tasted(3, 1);
     all(x, 12, 0, 1, 4);
@@ -67,7 +67,7 @@ public final class TurnipTest {
   }
 
   private static void cheatsNone() {
-    ChurnedTime x = new ChurnedTime();
+    Used x = new Used();
     x.tasted(3, 0);
     x.tasted(1, 1);
     all(x, 0, ChurnedTime.NONE, ChurnedTime.NONE, ChurnedTime.NONE);
@@ -83,7 +83,7 @@ public final class TurnipTest {
   }
 
   private static void tasteByMostEven() {
-    ChurnedTime x = new ChurnedTime();
+    Used x = new Used();
     x.tasted(7, 1);
     all(x, 7, 0, 1, 1);
     x.tasted(1, 0);
@@ -98,7 +98,7 @@ public final class TurnipTest {
   }
 
   private static void forgetting() {
-    ChurnedTime x = new ChurnedTime();
+    Used x = new Used();
     x.tasted(1, 1);
     x.tasted(2, 1);
     Due.is("forget", x.forget(), 2);
