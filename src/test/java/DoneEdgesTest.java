@@ -223,6 +223,8 @@ public final class DoneEdgesTest {
       Due.is("left over of " + cream, x.now(2), cream % 3);
       Due.is("need behind " + cream, x.now(9), cream % 3 == 0 ? 0 : 10);
       Due.is("beats again behind " + cream, x.beats(10), cream % 3 == 0 ? STATE : 0);
+      Due.is("fresh still of " + cream, x.fresh(0), cream / 3);
+      Due.is("left over still of " + cream, x.now(2), cream % 3);
     }
   }
 

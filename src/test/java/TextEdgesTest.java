@@ -30,7 +30,10 @@ public final class TextEdgesTest {
     faultLeavesTheText();
     emptyBehindIt();
     notToldIsAsAtFirst();
+    notToldBehindAFault();
     readAnew();
+    readAnewWhileAllIsInUse();
+    readAnewAgainAndAgain();
     Due.end();
   }
 
@@ -463,6 +466,21 @@ public final class TextEdgesTest {
     return x.dairy();
   }
 
+  // What a text with a FAULT tells is not told, then or by the next text.
+  private static void notToldBehindAFault() {
+    for (String fault : new String[] {"d1 1;w1 1 1;f5;c1;x", "d1 1;w1 1 1;f5;c1;f", "d1 1;w1 1 1;f5;c1;c"}) {
+      for (String text : new String[] {"", "d2 2;", "w2 2 2;", "c2;"}) {
+        Used x = new Used();
+        Due.type(x, fault);
+        Due.holds("a fault", x.dairy() < -9);
+        x.clear();
+        Due.type(x, text);
+        Due.is("then \"" + text + "\"", x.dairy(), text.isEmpty() ? 0 : 1);
+        Due.same("all as told by \"" + text + "\" alone", Seen.now(x), Seen.now(Due.told(text, text.isEmpty() ? 0 : 1)));
+      }
+    }
+  }
+
   // "Read anew: ... DAY 0, nothing TASTED, IMAGES are gone, nothing can be UNDONE; THE TRACE goes on."
   private static void readAnew() {
     String text = "d24 5;d20 7;d19 3;d24 5;w3 1 9;w1 2 8;f4;c10;c20;";
@@ -495,5 +513,61 @@ public final class TextEdgesTest {
     Due.is("the trace stays", z.trace(), 100001);
     z.rate(0, 0);
     Due.is("the trace goes on", z.trace(), 100002);
+  }
+
+  // Pounds of each age, hours that stand, strokes, a quarrel: none is left.
+  private static void readAnewWhileAllIsInUse() {
+    String text = "d24 5;d24 5;d24 5;d24 5;d20 5;w13 1 1;";
+    Used x = Due.told(text, 6);
+    for (int d = 0; d < 4; d++) {
+      x.stands();
+      x.night();
+      if (d < 3) x.beats(10);
+    }
+    x.salts(2);
+    x.feeds(0);
+    x.beats(11);
+    x.quarrels(1);
+    x.stands();
+    x.night();
+    x.undo();
+    Due.same("ahead", Due.barn(x), "4 20 0 0 9 2 4 1 1 0 4 4 1 ");
+    x.keep(0);
+    x.keep(1);
+    Due.type(x, text);
+    Due.is("read anew", x.dairy(), 6);
+    Due.same("barn", Due.barn(x), "0 0 0 0 0 0 0 0 0 0 0 0 0 ");
+    Due.is("they don't stand already", x.stands(), 24);
+    x.undo();
+    Used y = Due.told(text, 6);
+    Due.same("what shows", Seen.now(x), Seen.now(y));
+    Due.same("what shows later", Seen.later(x), Seen.later(y));
+    Used z = Due.told("d24 5;d24 5;", 2);
+    z.stands();
+    z.night();
+    z.beats(9);
+    Due.same("strokes and cream", Due.barn(z), "1 0 12 9 0 0 0 0 0 1 0 0 0 ");
+    Due.is("nothing typed", z.dairy(), 0);
+    Due.same("barn", Due.barn(z), "0 0 0 0 0 0 0 0 0 0 0 0 0 ");
+  }
+
+  // No text leaves anything to those behind it.
+  private static void readAnewAgainAndAgain() {
+    String[] texts = {FULL_TEXT, "", "c7;", FULL_TEXT, "f2;", "", "", "d1 2;", "f1;w1 2 3;", "w4 5 6;", "c1;c2;", "d9 9;"};
+    Used x = new Used();
+    for (String text : texts) {
+      Due.type(x, text);
+      x.dairy();
+      Used y = new Used();
+      Due.type(y, text);
+      y.dairy();
+      for (int what = 0; what <= 5; what++) {
+        Due.is("by \"" + text + "\": count(" + what + ")", x.count(what), y.count(what));
+      }
+      Due.is("by \"" + text + "\": cheats", x.cheats(0), 1 << y.count(2));
+      Due.is("by \"" + text + "\": hours", x.day(0, 0), y.day(0, 0));
+      Due.is("by \"" + text + "\": pounds", x.work(0, 1), y.work(0, 1));
+      Due.is("by \"" + text + "\": share", x.share(0, 99), y.share(0, 99));
+    }
   }
 }

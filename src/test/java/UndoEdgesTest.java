@@ -24,6 +24,7 @@ public final class UndoEdgesTest {
     noneBehindAgain();
     stillKnownBehindARefusedAgain();
     acrossTheLastNight();
+    asManyCallsAsArePromised();
     Due.end();
   }
 
@@ -329,5 +330,17 @@ public final class UndoEdgesTest {
     Due.is("coming()", x.coming(0), 0);
     Due.is("undo()", x.undo(), 0);
     Due.same("first", Due.barn(x), "0 0 0 0 0 0 0 0 0 0 0 0 0 ");
+  }
+
+  // "An object is used for at most 512 calls": the last of them answers as the others do.
+  private static void asManyCallsAsArePromised() {
+    Used x = Due.told("d24 5;", 1);
+    int calls = 8;
+    for (int quarrel = 1; calls < 510; calls++) {
+      Due.is("call " + (calls + 1), x.quarrels(quarrel), 10 + 10 * quarrel);
+      quarrel = 1 - quarrel;
+    }
+    Due.is("call 511", x.undo(), 9);
+    Due.is("call 512", x.now(7), 1);
   }
 }
