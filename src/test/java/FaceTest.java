@@ -85,7 +85,14 @@ public final class FaceTest {
         else Due.holds(f.getName() + " is final", Modifier.isFinal(f.getModifiers()));
       }
       Due.holds(c.getName() + " has some twenty fields at most", own <= 24);
+      for (Method m : c.getDeclaredMethods()) methodInside(m);
     }
+  }
+
+  private static void methodInside(Method m) {
+    Due.holds(m.getName() + " takes seven at most", m.getParameterCount() <= 7);
+    Due.holds(m.getName() + " is not one of every object",
+        !Set.of("equals", "hashCode", "toString").contains(m.getName()));
   }
 
   private static void source() throws IOException {
@@ -102,5 +109,17 @@ public final class FaceTest {
     Due.holds("no lambda", !Pattern.compile("(?m)^(?!\\s*(case|default)\\b).*->").matcher(code).find());
     Due.holds("no method reference", !code.contains("::"));
     Due.holds("nothing whose name ends in Exact", !Pattern.compile("Exact\\b").matcher(code).find());
+    shortMethods(text.split("\n"));
+  }
+
+  // From a line that opens a body to the one that closes it at the same indent.
+  private static void shortMethods(String[] lines) {
+    for (int i = 0; i < lines.length; i++) {
+      if (!lines[i].endsWith(") {")) continue;
+      String indent = lines[i].substring(0, lines[i].length() - lines[i].stripLeading().length());
+      int end = i;
+      while (end < lines.length && !lines[end].startsWith(indent + "}")) end++;
+      Due.holds("sixty lines at most behind line " + (i + 1), end - i <= 60);
+    }
   }
 }
